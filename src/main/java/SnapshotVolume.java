@@ -234,7 +234,7 @@ public final class SnapshotVolume {
         return NO_PLACE;
     }
 
-    /** Whether a tag still counts is asked anew each time: dropping a snapshot leaves its tags as they are. */
+    /** Asked anew each time: dropping a snapshot leaves its tags as they are. */
     private boolean isFree(int c) {
         for (int s = 0; s < PLACES; s++) {
             if (tagStamps[c] == stamps[s]) {
@@ -328,6 +328,7 @@ public final class SnapshotVolume {
     /** The tag comes last: until it is written, a power cut leaves the copy block free. */
     private void copyBlock(int s, int b, int replaced, int word) {
         int c = lowestFree();
+        // No call comes here without a free copy block: each has counted them before its first write.
         if (c == NO_COPY) {
             return;
         }
