@@ -1,4 +1,6 @@
 import java.util.NoSuchElementException;
+import java.util.function.Consumer;
+import java.util.function.Supplier;
 
 /** Counts answers that are as due and prints those that are not. */
 final class Check {
@@ -9,13 +11,21 @@ final class Check {
 
     private int right;
     private int wrong;
+    private String sentence = "";
+    private int sentences;
+
+    /** The document's words that the answers from here on are held to: told with each wrong one. */
+    void sentence(String words) {
+        sentence = "\"" + words + "\": ";
+        sentences++;
+    }
 
     void same(String what, Object got, Object due) {
         if (got.equals(due)) {
             right++;
         } else {
             wrong++;
-            System.out.println(what + " answered " + got + ", due is " + due);
+            System.out.println(sentence + what + " answered " + got + ", due is " + due);
         }
     }
 
@@ -31,6 +41,16 @@ final class Check {
         same("the state after " + what, stateOf(x), before);
     }
 
+    /** The same on a volume of its own: an object is held to its promises for 512 calls alone. */
+    void refusesUnchanged(
+            String what,
+            Class<? extends RuntimeException> due,
+            Supplier<SnapshotVolume> make,
+            Consumer<SnapshotVolume> call) {
+        SnapshotVolume x = make.get();
+        refusesUnchanged(what, due, x, () -> call.accept(x));
+    }
+
     static String thrownBy(Runnable call) {
         try {
             call.run();
@@ -40,16 +60,23 @@ final class Check {
         }
     }
 
-    /** What the calls tell of a volume that is up, the fuse left out. */
+    /** What the calls tell of a volume that is up, the fuse left out; some 120 calls at most. */
     static String stateOf(SnapshotVolume x) {
-        return contentOf(x) + " used " + x.used() + " writes " + x.writes() + " copies " + copiesOf(x);
+        StringBuilder text = new StringBuilder(contentOf(x));
+        text.append(" used ").append(x.used()).append(" writes ").append(x.writes()).append(" copies");
+        int places = x.places();
+        for (int k = 0; k < 18; k++) {
+            text.append(' ').append(isTaken(places, k / 6) ? x.copyOf(k / 6, k % 6) : -2);
+        }
+        return text.toString();
     }
 
     /** The words of the volume and of its snapshots. */
     static String contentOf(SnapshotVolume x) {
         StringBuilder text = new StringBuilder(volumeOf(x));
+        int places = x.places();
         for (int s = 0; s < 3; s++) {
-            text.append(" | ").append(snapshotOf(x, s));
+            text.append(" | ").append(isTaken(places, s) ? snapshotOf(x, s) : "empty");
         }
         return text.toString();
     }
@@ -63,9 +90,6 @@ final class Check {
     }
 
     static String snapshotOf(SnapshotVolume x, int s) {
-        if ((x.places() >> s & 1) == 0) {
-            return "empty";
-        }
         StringBuilder text = new StringBuilder();
         for (int k = 0; k < 24; k++) {
             text.append(x.readSnapshot(s, k / 4, k % 4)).append(k % 4 == 3 ? "; " : " ");
@@ -73,17 +97,13 @@ final class Check {
         return text.toString();
     }
 
-    private static String copiesOf(SnapshotVolume x) {
-        StringBuilder text = new StringBuilder();
-        for (int k = 0; k < 18; k++) {
-            int s = k / 6;
-            text.append((x.places() >> s & 1) == 0 ? "." : String.valueOf(x.copyOf(s, k % 6))).append(' ');
-        }
-        return text.toString();
+    private static boolean isTaken(int places, int s) {
+        return (places >> s & 1) == 1;
     }
 
     void end() {
-        System.out.println(right + " answers as due, " + wrong + " not as due");
+        String held = sentences == 0 ? "" : sentences + " sentences, ";
+        System.out.println(held + right + " answers as due, " + wrong + " not as due");
         if (wrong != 0 || right == 0) {
             System.exit(1);
         }

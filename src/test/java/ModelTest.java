@@ -37,7 +37,7 @@ public final class ModelTest {
         int word = random.nextInt(3);
         int n = random.nextInt(40) == 0 ? -random.nextInt(4) : random.nextInt(30);
         String with = "(s " + s + ", b " + b + ", i " + i + ", word " + word + ", n " + n + ")";
-        switch (random.nextInt(x.isDown() ? 24 : 23)) {
+        switch (random.nextInt(model.isDown() ? 24 : 23)) {
             case 0, 1, 2, 3 -> compare(where, "write", with, () -> x.write(b, i, word), () -> model.write(b, i, word));
             case 4, 5 -> compare(where, "read", with, () -> x.read(b, i), () -> model.read(b, i));
             case 6, 7 -> compare(where, "snapshot", with, x::snapshot, model::snapshot);

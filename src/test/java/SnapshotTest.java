@@ -1,7 +1,7 @@
+import java.util.function.Consumer;
+
 /** Promises 5 to 8 and 14 to 17: taking, dropping, reading, writing and counting snapshots. */
 public final class SnapshotTest {
-    private static final int[] WRONG_PLACES = {-1, 3, 2, Integer.MIN_VALUE, Integer.MAX_VALUE};
-
     private final Check check = new Check();
 
     public static void main(String[] args) {
@@ -194,47 +194,46 @@ public final class SnapshotTest {
     }
 
     private void refusesWrongPlacesFirst() {
-        SnapshotVolume x = new SnapshotVolume();
-        x.snapshot();
-        x.write(1, 1, 1);
-        x.snapshot();
-        x.fuse(0);
-        for (int s : WRONG_PLACES) {
-            check.refusesUnchanged("drop " + s, Check.NONE_THERE, x, () -> x.drop(s));
-            check.refuses("readSnapshot of " + s, Check.NONE_THERE, () -> x.readSnapshot(s, 9, 9));
-            check.refusesUnchanged(
-                    "writeSnapshot to " + s, Check.NONE_THERE, x, () -> x.writeSnapshot(s, 9, 9, 1));
-            check.refusesUnchanged("rollback to " + s, Check.NONE_THERE, x, () -> x.rollback(s));
-            check.refuses("copyOf of " + s, Check.NONE_THERE, () -> x.copyOf(s, 9));
-            check.refuses("changed of " + s, Check.NONE_THERE, () -> x.changed(s));
+        for (int s : Volumes.WRONG_PLACES) {
+            refusesPlace(s);
         }
-        check.same("isDown after refusals", x.isDown(), false);
+        refusesPlace(2);
+    }
+
+    private void refusesPlace(int s) {
+        refusesUnchanged("drop " + s, Check.NONE_THERE, x -> x.drop(s));
+        refusesUnchanged("readSnapshot of " + s, Check.NONE_THERE, x -> x.readSnapshot(s, 9, 9));
+        refusesUnchanged("writeSnapshot to " + s, Check.NONE_THERE, x -> x.writeSnapshot(s, 9, 9, 1));
+        refusesUnchanged("rollback to " + s, Check.NONE_THERE, x -> x.rollback(s));
+        refusesUnchanged("copyOf of " + s, Check.NONE_THERE, x -> x.copyOf(s, 9));
+        refusesUnchanged("changed of " + s, Check.NONE_THERE, x -> x.changed(s));
     }
 
     private void refusesWrongBlocksAndWords() {
-        SnapshotVolume x = new SnapshotVolume();
-        x.snapshot();
-        x.snapshot();
-        for (int b = 0; b < 4; b++) {
-            x.write(b, 0, 1);
+        for (int b : Volumes.WRONG_BLOCKS) {
+            refusesUnchanged("copyOf block " + b, Check.ARGUMENT, x -> x.copyOf(1, b));
+            refusesWord(b, 0);
         }
-        x.writeSnapshot(0, 4, 0, 1);
-        x.fuse(0);
-        int[] wrong = {-1, 6, Integer.MIN_VALUE, Integer.MAX_VALUE};
-        for (int n : wrong) {
-            check.refuses("copyOf block " + n, Check.ARGUMENT, () -> x.copyOf(1, n));
-            refusesWord(x, n, 0);
-            refusesWord(x, 0, n);
+        for (int i : Volumes.WRONG_WORDS) {
+            refusesWord(0, i);
         }
-        refusesWord(x, 0, 4);
-        check.same("copyOf the last block", x.copyOf(1, 5), -1);
-        check.same("the last word", x.readSnapshot(1, 5, 3), 0);
-        check.same("isDown after refusals", x.isDown(), false);
     }
 
-    private void refusesWord(SnapshotVolume x, int b, int i) {
+    private void refusesWord(int b, int i) {
         String at = " of block " + b + ", word " + i;
-        check.refuses("readSnapshot" + at, Check.ARGUMENT, () -> x.readSnapshot(1, b, i));
-        check.refusesUnchanged("writeSnapshot" + at, Check.ARGUMENT, x, () -> x.writeSnapshot(1, b, i, 7));
+        refusesUnchanged("readSnapshot" + at, Check.ARGUMENT, x -> x.readSnapshot(1, b, i));
+        refusesUnchanged("writeSnapshot" + at, Check.ARGUMENT, x -> x.writeSnapshot(1, b, i, 7));
+    }
+
+    private void refusesUnchanged(
+            String what, Class<? extends RuntimeException> due, Consumer<SnapshotVolume> call) {
+        check.refusesUnchanged(what, due, SnapshotTest::fullAndFused, call);
+    }
+
+    /** Place 2 is empty, no copy block is free, and the first write is one too many. */
+    private static SnapshotVolume fullAndFused() {
+        SnapshotVolume x = Volumes.withCopies(9);
+        x.fuse(0);
+        return x;
     }
 }

@@ -1,8 +1,5 @@
 /** Promises 1 to 4 and 13: a new object, format, write, read and writes. */
 public final class VolumeTest {
-    private static final int[] WRONG_BLOCKS = {-1, 6, Integer.MIN_VALUE, Integer.MAX_VALUE};
-    private static final int[] WRONG_WORDS = {-1, 4, Integer.MIN_VALUE, Integer.MAX_VALUE};
-
     private final Check check = new Check();
 
     public static void main(String[] args) {
@@ -143,22 +140,21 @@ public final class VolumeTest {
     }
 
     private void promises3And4RefuseWrongPlaces() {
-        SnapshotVolume x = new SnapshotVolume();
-        x.write(0, 0, 3);
-        x.snapshot();
+        for (int b : Volumes.WRONG_BLOCKS) {
+            check.refusesUnchanged("write to block " + b, Check.ARGUMENT, VolumeTest::fused, x -> x.write(b, 0, 1));
+            check.refusesUnchanged("read of block " + b, Check.ARGUMENT, VolumeTest::fused, x -> x.read(b, 0));
+        }
+        for (int i : Volumes.WRONG_WORDS) {
+            check.refusesUnchanged("write to word " + i, Check.ARGUMENT, VolumeTest::fused, x -> x.write(0, i, 1));
+            check.refusesUnchanged("read of word " + i, Check.ARGUMENT, VolumeTest::fused, x -> x.read(0, i));
+        }
+    }
+
+    /** A volume that goes down at the first write, so that a refused call that wrote would show. */
+    private static SnapshotVolume fused() {
+        SnapshotVolume x = Volumes.withSnapshots(1);
         x.fuse(0);
-        for (int b : WRONG_BLOCKS) {
-            check.refusesUnchanged("write to block " + b, Check.ARGUMENT, x, () -> x.write(b, 0, 1));
-            check.refuses("read of block " + b, Check.ARGUMENT, () -> x.read(b, 0));
-        }
-        for (int i : WRONG_WORDS) {
-            check.refusesUnchanged("write to word " + i, Check.ARGUMENT, x, () -> x.write(0, i, 1));
-            check.refuses("read of word " + i, Check.ARGUMENT, () -> x.read(0, i));
-        }
-        check.same("isDown after refusals", x.isDown(), false);
-        check.refuses("write with the fuse at 0", Check.POWER, () -> x.write(0, 0, 1));
-        check.refuses("wrong write while down", Check.POWER, () -> x.write(-1, 9, 1));
-        check.refuses("wrong read while down", Check.POWER, () -> x.read(-1, 9));
+        return x;
     }
 
     private void promise13CountsWrites() {
