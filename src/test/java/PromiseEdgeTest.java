@@ -120,7 +120,7 @@ public final class PromiseEdgeTest {
     private void promise2TakesFuseAway() {
         check.sentence("no fuse is set");
         for (int n = 0; n < 3; n++) {
-            SnapshotVolume x = new SnapshotVolume();
+            SnapshotVolume x = Volumes.numbered();
             x.fuse(n);
             x.format();
             for (int k = 0; k < 20; k++) {

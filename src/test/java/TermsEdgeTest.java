@@ -4,6 +4,8 @@ public final class TermsEdgeTest {
 
     public static void main(String[] args) {
         TermsEdgeTest test = new TermsEdgeTest();
+        test.diskKeepsEveryWord();
+        test.eachWriteCountsOne();
         test.placeWithoutStampIsEmpty();
         test.stampsAreGivenOnce();
         test.stampsAreGivenOnceOverCuts();
@@ -26,6 +28,54 @@ public final class TermsEdgeTest {
         test.recoverGoesOnFromMark();
         test.recoverWithoutRollWritesNothing();
         test.check.end();
+    }
+
+    /** Every word that the disk has room for is another one, before and after the power goes. */
+    private void diskKeepsEveryWord() {
+        check.sentence("THE DISK keeps, whatever happens: 6 BLOCKS of 4 words (ints); "
+                + "9 COPY BLOCKS 0 .. 8 of 4 words, each with a TAG; "
+                + "a STAMP for each of the snapshot places 0 .. 2");
+        SnapshotVolume x = Volumes.withSnapshots(3);
+        for (int k = 0; k < 36; k++) {
+            x.writeSnapshot(k / 12, k / 4 % 3, k % 4, -k - 1);
+        }
+        Volumes.cut(x);
+        x.recover();
+        check.same("places", x.places(), 7);
+        for (int k = 0; k < 24; k++) {
+            check.same("word " + k + " of the volume", x.read(k / 4, k % 4), 10 * (k / 4) + k % 4 + 1);
+        }
+        for (int k = 0; k < 36; k++) {
+            check.same("word " + k + " of the copies", x.readSnapshot(k / 12, k / 4 % 3, k % 4), -k - 1);
+            check.same("its copy block", x.copyOf(k / 12, k / 4 % 3), k / 4);
+        }
+    }
+
+    /** The last of them write what is there already: they count all the same. */
+    private void eachWriteCountsOne() {
+        check.sentence("A WRITE changes one word of a block or copy block, a tag, a stamp, ROLL or MARK; "
+                + "each counts 1.");
+        SnapshotVolume x = new SnapshotVolume();
+        x.write(0, 0, 1);
+        check.same("a word of a block", x.writes(), 1);
+        x.snapshot();
+        check.same("a stamp", x.writes(), 2);
+        x.rollback(0);
+        check.same("MARK, ROLL and ROLL again", x.writes(), 5);
+        x.writeSnapshot(0, 0, 0, 2);
+        check.same("four words of a copy block and its tag", x.writes(), 10);
+        x.writeSnapshot(0, 0, 0, 3);
+        check.same("a word of a copy block", x.writes(), 11);
+        x.rollback(0);
+        check.same("MARK, ROLL, four words of a block, MARK and ROLL", x.writes(), 19);
+        x.drop(0);
+        check.same("a stamp that becomes 0", x.writes(), 20);
+        x.write(0, 0, 3);
+        check.same("the word that is there", x.writes(), 21);
+        x.snapshot();
+        x.writeSnapshot(0, 5, 3, 0);
+        x.writeSnapshot(0, 5, 3, 0);
+        check.same("a stamp, a copy and its word that is there", x.writes(), 28);
     }
 
     private void placeWithoutStampIsEmpty() {
